@@ -1,6 +1,8 @@
 import java.util.ArrayDeque;
 import java.util.Deque;
+import java.util.HashSet;
 import java.util.Random;
+import java.util.Set;
 
 /** Long runs of calls, the same on a GraphKeep and on the Model, whose answers must be the same. */
 public final class ModelTest {
@@ -15,9 +17,19 @@ public final class ModelTest {
         {2, 20, 30, 30, 20, 5, 9, 1, 0, 0, 0, 0, 0, 0},
         {2, 20, 30, 30, 20, 5, 20, 1, 1, 1, 0, 1, 3, 2},
         {2, 10, 20, 20, 10, 10, 10, 3, 6, 10, 1, 3, 8, 6},
+        {2, 10, 20, 60, 10, 10, 0, 0, 0, 0, 0, 0, 0, 0},
+        {4, 20, 40, 120, 20, 20, 6, 1, 4, 1, 0, 0, 0, 0},
+        {4, 20, 40, 120, 20, 20, 12, 0, 6, 4, 0, 0, 0, 0},
     };
     private static final int[] ODD = {-1, -2, -3, 63, 64, 95, 96, Integer.MIN_VALUE, Integer.MAX_VALUE};
     private static final int CALLS = 512;
+    /** Runs that came to none of these would say little. */
+    private static final String[] REACHED = {
+        "node 63", "node ERROR 6", "node ERROR 9", "label ERROR 6", "label ERROR 8", "label ERROR 9",
+        "property ERROR 2", "property ERROR 6", "property ERROR 8", "property ERROR 9",
+        "link 95", "link ERROR 6", "link ERROR 8", "link ERROR 9", "take ERROR 7", "take ERROR 8", "take ERROR 9",
+        "done ERROR 9", "done " + Due.OFF, "commit -2", "commit " + Due.OFF, "checkpoint " + Due.OFF, "recover 3",
+    };
 
     private final Due due;
     private final Random random;
@@ -25,20 +37,27 @@ public final class ModelTest {
     private final Model model = new Model();
     private final Deque<String> latest = new ArrayDeque<>();
     private final int spread;
+    private final Set<String> reached;
 
-    private ModelTest(Due due, long seed) {
+    private ModelTest(Due due, long seed, Set<String> reached) {
         this.due = due;
+        this.reached = reached;
         this.random = new Random(seed);
         this.spread = 2 + random.nextInt(64);
     }
 
     public static void main(String[] args) {
         Due due = new Due("ModelTest");
+        Set<String> reached = new HashSet<>();
         for (int mix = 0; mix < MIXES.length; mix++) {
             for (int run = 0; run < 40 && due.wrong() == 0; run++) {
                 due.part("mix " + mix + ", run " + run);
-                new ModelTest(due, 1000L * mix + run).run(MIXES[mix]);
+                new ModelTest(due, 1000L * mix + run, reached).run(MIXES[mix]);
             }
+        }
+        due.part("what the runs reached");
+        for (String wanted : REACHED) {
+            due.is(wanted, reached.contains(wanted), true);
         }
         due.end();
     }
@@ -77,10 +96,15 @@ public final class ModelTest {
             latest.removeFirst();
         }
         due.is(what, got, Due.answer(wanted));
+        reached.add(what.replaceAll("\\(.*", "") + " " + (got.equals(Due.ERROR) ? "ERROR " + keep.error() : got));
     }
 
     private int number() {
-        return random.nextInt(25) == 0 ? ODD[random.nextInt(ODD.length)] : random.nextInt(spread);
+        if (random.nextInt(25) == 0) {
+            return ODD[random.nextInt(ODD.length)];
+        }
+        int used = Math.max(model.state(0), model.state(1));
+        return random.nextInt(Math.min(spread, used + 2));
     }
 
     private int kindOfThing() {
@@ -127,7 +151,7 @@ public final class ModelTest {
 
     private void propertySome(int thing, int n, int key) {
         int kind = random.nextInt(20) == 0 ? random.nextInt(8) - 2 : random.nextInt(4);
-        long v = random.nextInt(20) == 0 ? random.nextLong() : random.nextInt(2);
+        long v = random.nextInt(20) == 0 ? random.nextLong() : random.nextInt(kind == 1 ? 100 : 2);
         both("property(" + thing + ", " + n + ", " + key + ", " + kind + ", " + v + ")",
             () -> keep.property(thing, n, key, kind, v), () -> model.property(thing, n, key, kind, v));
     }
@@ -143,28 +167,37 @@ public final class ModelTest {
             int w = what;
             both("state(" + w + ")", () -> keep.state(w), () -> model.state(w));
         }
-        for (int i = 0; i < 3; i++) {
-            lookAt(kindOfThing(), number(), random.nextInt(8) - 1);
-        }
+        int thing = kindOfThing();
+        int n = number();
+        lookAtThing(thing, n);
+        lookAtKey(thing, n, random.nextInt(8) - 1);
     }
 
-    private void lookAt(int thing, int n, int key) {
-        for (int what = -3; what <= 4; what++) {
+    private void lookAtThing(int thing, int n) {
+        for (int what = -1; what <= 4; what++) {
             int w = what;
             both("thing(" + thing + ", " + n + ", " + w + ")", () -> keep.thing(thing, n, w), () -> model.thing(thing, n, w));
-            both("value(" + thing + ", " + n + ", " + key + ", " + w + ")",
-                () -> keep.value(thing, n, key, w), () -> model.value(thing, n, key, w));
             both("chain(" + n + ", true, " + w + ")", () -> keep.chain(n, true, w), () -> model.chain(n, true, w));
             both("chain(" + n + ", false, " + w + ")", () -> keep.chain(n, false, w), () -> model.chain(n, false, w));
         }
+    }
+
+    private void lookAtKey(int thing, int n, int key) {
         both("has(" + n + ", " + key + ")", () -> keep.has(n, key), () -> model.has(n, key));
+        for (int what = -3; what <= 1; what++) {
+            int w = what;
+            both("value(" + thing + ", " + n + ", " + key + ", " + w + ")",
+                () -> keep.value(thing, n, key, w), () -> model.value(thing, n, key, w));
+        }
     }
 
     private void lookAtAll() {
-        for (int n = 0; n < 96; n++) {
-            for (int key = -1; key < 7; key++) {
-                lookAt(4, n, key);
-                lookAt(5, n, key);
+        for (int thing = 4; thing <= 5; thing++) {
+            for (int n = 0; n < 96; n++) {
+                lookAtThing(thing, n);
+                for (int key = -1; key < 7; key++) {
+                    lookAtKey(thing, n, key);
+                }
             }
         }
     }
