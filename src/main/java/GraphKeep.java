@@ -207,7 +207,10 @@ public final class GraphKeep {
         if (found instanceof Node node) {
             return nodeFact(node, n, what);
         }
-        return found instanceof Link link ? linkFact(link, what) : NONE;
+        if (found instanceof Link link) {
+            return linkFact(link, what);
+        }
+        return NONE;
     }
 
     public int chain(int n, boolean out, int k) {
