@@ -33,6 +33,10 @@ final class Due {
         }
     }
 
+    static String answer(Ask ask, Face x) {
+        return answer(() -> ask.of(x));
+    }
+
     static String answer(Step step) {
         return answer(() -> {
             step.run();

@@ -36,13 +36,14 @@ public final class FaceTest {
     private static final String[] BANNED = {
         "package ", "catch", "try ", "finally", "synchronized", "assert ", "->", "::", "static {", "extends Exception",
         "Exact(", "System.out", "System.nano", "System.current", "Random", "Thread", "getMessage", "hashCode",
-        "toString", "java.io", "java.nio", "java.time", "HashMap", "Iterator",
+        "toString", "java.io", "java.nio", "java.time", "HashMap", "Iterator", " / ", " % ",
     };
 
     private static final Due due = new Due("FaceTest");
 
     public static void main(String[] args) throws IOException {
         publicFace();
+        constants();
         nothingElseShows();
         classesInside();
         text(Files.readString(Path.of("src/main/java/GraphKeep.java")));
@@ -90,6 +91,13 @@ public final class FaceTest {
             due.is(field + " is no static state",
                 !Modifier.isStatic(field.getModifiers()) || Modifier.isFinal(field.getModifiers()), true);
         }
+    }
+
+    private static void constants() {
+        due.part("the public face: constants");
+        Field[] open = GraphKeep.class.getFields();
+        due.is("how many", open.length, 1);
+        due.is("the one", open[0].toString(), "public static final int GraphKeep.NONE");
         due.is("NONE", GraphKeep.NONE, -1);
     }
 
@@ -101,6 +109,16 @@ public final class FaceTest {
             int modifiers = one.getModifiers();
             due.is(one + " is static", Modifier.isStatic(modifiers), true);
             due.is(one + " is hidden", !Modifier.isPublic(modifiers) && !Modifier.isProtected(modifiers), true);
+            sizes(one);
+        }
+        sizes(GraphKeep.class);
+    }
+
+    private static void sizes(Class<?> one) {
+        long fields = Arrays.stream(one.getDeclaredFields()).filter(field -> !Modifier.isStatic(field.getModifiers())).count();
+        due.is(one + " has at most twenty fields", fields <= 20, true);
+        for (Method method : one.getDeclaredMethods()) {
+            due.is(method + " has at most seven parameters", method.getParameterCount() <= 7, true);
         }
     }
 

@@ -10,7 +10,7 @@ import java.util.TreeSet;
  * The document told once more, another way than GraphKeep does: CHANGES are recorded, undone by doing
  * the others again, written one by one to a LOG, and recovered by replaying that LOG on the CHECKPOINT.
  */
-final class Model {
+final class Model implements Face {
     record Value(int kind, long number, String text) { }
 
     static final class Thing {
@@ -72,7 +72,8 @@ final class Model {
     private boolean transaction = false;
     private boolean off = false;
 
-    boolean type(long word, int n) {
+    @Override
+    public boolean type(long word, int n) {
         if (n < 1 || n > 8) {
             return false;
         }
@@ -87,14 +88,16 @@ final class Model {
         return true;
     }
 
-    int node() {
+    @Override
+    public int node() {
         on();
         int n = free(now.nodes, goneNodes, 64);
         change(world -> world.nodes.put(n, new Thing()));
         return n;
     }
 
-    boolean label(int n, int label, boolean on) {
+    @Override
+    public boolean label(int n, int label, boolean on) {
         on();
         Set<Integer> labels = find(4, n).labels;
         if (labels.contains(label) == on) {
@@ -111,7 +114,8 @@ final class Model {
         return true;
     }
 
-    boolean property(int kindOfThing, int n, int key, int kind, long v) {
+    @Override
+    public boolean property(int kindOfThing, int n, int key, int kind, long v) {
         on();
         TreeMap<Integer, Value> properties = find(kindOfThing, n).properties;
         Value value = null;
@@ -146,7 +150,8 @@ final class Model {
         return true;
     }
 
-    int link(int start, int end, int type) {
+    @Override
+    public int link(int start, int end, int type) {
         on();
         find(4, start);
         find(4, end);
@@ -161,7 +166,8 @@ final class Model {
         return n;
     }
 
-    void take(int kind, int n) {
+    @Override
+    public void take(int kind, int n) {
         on();
         find(kind, n);
         if (kind == 4 && now.links.values().stream().anyMatch(link -> link.start == n || link.end == n)) {
@@ -171,11 +177,13 @@ final class Model {
         (kind == 4 ? goneNodes : goneLinks).add(n);
     }
 
-    int error() {
+    @Override
+    public int error() {
         return error;
     }
 
-    int done() {
+    @Override
+    public int done() {
         on();
         int had = statement.size();
         if (!transaction && had > 0) {
@@ -189,7 +197,8 @@ final class Model {
         return had;
     }
 
-    int undo() {
+    @Override
+    public int undo() {
         int had = statement.size();
         if (!off) {
             statement.clear();
@@ -198,7 +207,8 @@ final class Model {
         return had;
     }
 
-    boolean begin() {
+    @Override
+    public boolean begin() {
         if (off || transaction) {
             return false;
         }
@@ -207,7 +217,8 @@ final class Model {
         return true;
     }
 
-    int commit() {
+    @Override
+    public int commit() {
         on();
         if (!transaction) {
             return -1;
@@ -226,7 +237,8 @@ final class Model {
         return size;
     }
 
-    boolean rollback() {
+    @Override
+    public boolean rollback() {
         if (!transaction) {
             return false;
         }
@@ -237,7 +249,8 @@ final class Model {
         return true;
     }
 
-    int checkpoint() {
+    @Override
+    public int checkpoint() {
         on();
         if (transaction || !statement.isEmpty()) {
             return -1;
@@ -256,7 +269,8 @@ final class Model {
         return size;
     }
 
-    boolean cut(int n) {
+    @Override
+    public boolean cut(int n) {
         if (off || n < 0 || n > 2000) {
             return false;
         }
@@ -264,7 +278,8 @@ final class Model {
         return true;
     }
 
-    int recover() {
+    @Override
+    public int recover() {
         int ends = 0;
         int lastEnd = 0;
         for (int i = 0; i < log.size(); i++) {
@@ -285,7 +300,8 @@ final class Model {
         return ends;
     }
 
-    int thing(int kind, int n, int what) {
+    @Override
+    public int thing(int kind, int n, int what) {
         Thing thing = now.of(kind).get(n);
         if (thing == null) {
             return -1;
@@ -299,16 +315,19 @@ final class Model {
         };
     }
 
-    int chain(int n, boolean out, int k) {
+    @Override
+    public int chain(int n, boolean out, int k) {
         List<Integer> chain = chain(n, out);
         return k >= 0 && k < chain.size() ? chain.get(k) : -1;
     }
 
-    boolean has(int n, int label) {
+    @Override
+    public boolean has(int n, int label) {
         return now.nodes.containsKey(n) && now.nodes.get(n).labels.contains(label);
     }
 
-    long value(int kind, int n, int key, int what) {
+    @Override
+    public long value(int kind, int n, int key, int what) {
         Thing thing = now.of(kind).get(n);
         if (thing == null) {
             throw new NoSuchElementException();
@@ -323,7 +342,8 @@ final class Model {
         return what == -2 ? value.number() : value.text().charAt(what);
     }
 
-    int state(int what) {
+    @Override
+    public int state(int what) {
         return switch (what) {
             case 0 -> now.nodes.size();
             case 1 -> now.links.size();

@@ -1,6 +1,7 @@
-import java.util.ArrayDeque;
-import java.util.Deque;
+import java.util.ArrayList;
+import java.util.Arrays;
 import java.util.HashSet;
+import java.util.List;
 import java.util.Random;
 import java.util.Set;
 
@@ -17,12 +18,12 @@ public final class ModelTest {
         {2, 20, 30, 30, 20, 5, 9, 1, 0, 0, 0, 0, 0, 0},
         {2, 20, 30, 30, 20, 5, 20, 1, 1, 1, 0, 1, 3, 2},
         {2, 10, 20, 20, 10, 10, 10, 3, 6, 10, 1, 3, 8, 6},
-        {2, 10, 20, 60, 10, 10, 0, 0, 0, 0, 0, 0, 0, 0},
+        {2, 16, 20, 60, 20, 4, 0, 0, 0, 0, 0, 0, 0, 0},
         {4, 20, 40, 120, 20, 20, 6, 1, 4, 1, 0, 0, 0, 0},
         {4, 20, 40, 120, 20, 20, 12, 0, 6, 4, 0, 0, 0, 0},
     };
     private static final int[] ODD = {-1, -2, -3, 63, 64, 95, 96, Integer.MIN_VALUE, Integer.MAX_VALUE};
-    private static final int CALLS = 512;
+    private static final int RUNS = 600;
     /** Runs that came to none of these would say little. */
     private static final String[] REACHED = {
         "node 63", "node ERROR 6", "node ERROR 9", "label ERROR 6", "label ERROR 8", "label ERROR 9",
@@ -33,9 +34,9 @@ public final class ModelTest {
 
     private final Due due;
     private final Random random;
-    private final GraphKeep keep = new GraphKeep();
+    private final Real keep = new Real();
     private final Model model = new Model();
-    private final Deque<String> latest = new ArrayDeque<>();
+    private final List<String> calls = new ArrayList<>();
     private final int spread;
     private final Set<String> reached;
 
@@ -50,9 +51,9 @@ public final class ModelTest {
         Due due = new Due("ModelTest");
         Set<String> reached = new HashSet<>();
         for (int mix = 0; mix < MIXES.length; mix++) {
-            for (int run = 0; run < 40 && due.wrong() == 0; run++) {
+            for (int run = 0; run < RUNS && due.wrong() == 0; run++) {
                 due.part("mix " + mix + ", run " + run);
-                new ModelTest(due, 1000L * mix + run, reached).run(MIXES[mix]);
+                new ModelTest(due, 10000L * mix + run, reached).run(MIXES[mix]);
             }
         }
         due.part("what the runs reached");
@@ -62,41 +63,39 @@ public final class ModelTest {
         due.end();
     }
 
+    /** Some runs look often, some only at the end, so that they get farther within the calls of an object. */
     private void run(int[] mix) {
-        for (int i = 0; i < CALLS && due.wrong() == 0; i++) {
+        int looks = Math.max(0, random.nextInt(4) - 1);
+        int looksAtEnd = 40 + random.nextInt(160);
+        while (keep.callsLeft() > looksAtEnd && due.wrong() == 0) {
             step(choose(mix));
-            look();
-            if (i % 256 == 255) {
-                lookAtAll();
+            for (int i = 0; i < looks; i++) {
+                look();
             }
         }
+        while (keep.callsLeft() > 0 && due.wrong() == 0) {
+            look();
+        }
         if (due.wrong() != 0) {
-            latest.forEach(call -> System.out.println("  " + call));
+            calls.forEach(call -> System.out.println("  " + call));
         }
     }
 
-    private int choose(int[] mix) {
-        int sum = 0;
-        for (int weight : mix) {
-            sum += weight;
-        }
-        int left = random.nextInt(sum);
+    private int choose(int... weights) {
+        int left = random.nextInt(Arrays.stream(weights).sum());
         int chosen = 0;
-        while (left >= mix[chosen]) {
-            left -= mix[chosen];
+        while (left >= weights[chosen]) {
+            left -= weights[chosen];
             chosen++;
         }
         return chosen;
     }
 
-    private void both(String what, Due.Call real, Due.Call wanted) {
-        String got = Due.answer(real);
-        latest.addLast(what + " = " + got);
-        if (latest.size() > 30) {
-            latest.removeFirst();
-        }
-        due.is(what, got, Due.answer(wanted));
-        reached.add(what.replaceAll("\\(.*", "") + " " + (got.equals(Due.ERROR) ? "ERROR " + keep.error() : got));
+    private void both(String what, Ask ask) {
+        String got = Due.answer(ask, keep);
+        calls.add(what + " = " + got);
+        due.is(what, got, Due.answer(ask, model));
+        reached.add(what.replaceAll("\\(.*", "") + " " + (got.equals(Due.ERROR) ? "ERROR " + model.error() : got));
     }
 
     private int number() {
@@ -111,30 +110,34 @@ public final class ModelTest {
         return random.nextInt(25) == 0 ? random.nextInt(8) - 1 : 4 + random.nextInt(2);
     }
 
+    /** A LABEL or KEY: few, so that they are met again. */
+    private int name() {
+        return random.nextInt(8) - 1;
+    }
+
     private void step(int which) {
         int a = number();
         int b = number();
-        int c = random.nextInt(8) - 1;
+        int c = name();
         int thing = kindOfThing();
         switch (which) {
             case 0 -> typeSome();
-            case 1 -> both("node()", keep::node, model::node);
+            case 1 -> both("node()", Face::node);
             case 2 -> {
                 boolean on = random.nextInt(3) > 0;
-                both("label(" + a + ", " + c + ", " + on + ")", () -> keep.label(a, c, on), () -> model.label(a, c, on));
+                both("label(" + a + ", " + c + ", " + on + ")", x -> x.label(a, c, on));
             }
             case 3 -> propertySome(thing, a, c);
-            case 4 -> both("link(" + a + ", " + b + ", " + c + ")", () -> keep.link(a, b, c), () -> model.link(a, b, c));
-            case 5 -> both("take(" + thing + ", " + a + ")", () -> Due.answer(() -> keep.take(thing, a)),
-                () -> Due.answer(() -> model.take(thing, a)));
-            case 6 -> both("done()", keep::done, model::done);
-            case 7 -> both("undo()", keep::undo, model::undo);
-            case 8 -> both("begin()", keep::begin, model::begin);
-            case 9 -> both("commit()", keep::commit, model::commit);
-            case 10 -> both("rollback()", keep::rollback, model::rollback);
-            case 11 -> both("checkpoint()", keep::checkpoint, model::checkpoint);
+            case 4 -> both("link(" + a + ", " + b + ", " + c + ")", x -> x.link(a, b, c));
+            case 5 -> both("take(" + thing + ", " + a + ")", Ask.take(thing, a));
+            case 6 -> both("done()", Face::done);
+            case 7 -> both("undo()", Face::undo);
+            case 8 -> both("begin()", Face::begin);
+            case 9 -> both("commit()", Face::commit);
+            case 10 -> both("rollback()", Face::rollback);
+            case 11 -> both("checkpoint()", Face::checkpoint);
             case 12 -> cutSome();
-            default -> both("recover()", keep::recover, model::recover);
+            default -> both("recover()", Face::recover);
         }
     }
 
@@ -146,59 +149,34 @@ public final class ModelTest {
             word = word << 8 | (odd ? random.nextInt(256) : 97 + random.nextInt(2));
         }
         long typed = word;
-        both("type(" + typed + ", " + n + ")", () -> keep.type(typed, n), () -> model.type(typed, n));
+        both("type(" + typed + ", " + n + ")", x -> x.type(typed, n));
     }
 
     private void propertySome(int thing, int n, int key) {
         int kind = random.nextInt(20) == 0 ? random.nextInt(8) - 2 : random.nextInt(4);
         long v = random.nextInt(20) == 0 ? random.nextLong() : random.nextInt(kind == 1 ? 100 : 2);
-        both("property(" + thing + ", " + n + ", " + key + ", " + kind + ", " + v + ")",
-            () -> keep.property(thing, n, key, kind, v), () -> model.property(thing, n, key, kind, v));
+        both("property(" + thing + ", " + n + ", " + key + ", " + kind + ", " + v + ")", x -> x.property(thing, n, key, kind, v));
     }
 
     private void cutSome() {
         int n = random.nextInt(10) == 0 ? random.nextInt(2100) - 50 : random.nextInt(40);
-        both("cut(" + n + ")", () -> keep.cut(n), () -> model.cut(n));
+        both("cut(" + n + ")", x -> x.cut(n));
     }
 
     private void look() {
-        both("error()", keep::error, model::error);
-        for (int what = -1; what <= 7; what++) {
-            int w = what;
-            both("state(" + w + ")", () -> keep.state(w), () -> model.state(w));
-        }
-        int thing = kindOfThing();
         int n = number();
-        lookAtThing(thing, n);
-        lookAtKey(thing, n, random.nextInt(8) - 1);
-    }
-
-    private void lookAtThing(int thing, int n) {
-        for (int what = -1; what <= 4; what++) {
-            int w = what;
-            both("thing(" + thing + ", " + n + ", " + w + ")", () -> keep.thing(thing, n, w), () -> model.thing(thing, n, w));
-            both("chain(" + n + ", true, " + w + ")", () -> keep.chain(n, true, w), () -> model.chain(n, true, w));
-            both("chain(" + n + ", false, " + w + ")", () -> keep.chain(n, false, w), () -> model.chain(n, false, w));
-        }
-    }
-
-    private void lookAtKey(int thing, int n, int key) {
-        both("has(" + n + ", " + key + ")", () -> keep.has(n, key), () -> model.has(n, key));
-        for (int what = -3; what <= 1; what++) {
-            int w = what;
-            both("value(" + thing + ", " + n + ", " + key + ", " + w + ")",
-                () -> keep.value(thing, n, key, w), () -> model.value(thing, n, key, w));
-        }
-    }
-
-    private void lookAtAll() {
-        for (int thing = 4; thing <= 5; thing++) {
-            for (int n = 0; n < 96; n++) {
-                lookAtThing(thing, n);
-                for (int key = -1; key < 7; key++) {
-                    lookAtKey(thing, n, key);
-                }
-            }
+        int thing = kindOfThing();
+        int name = name();
+        boolean out = random.nextBoolean();
+        int what = random.nextInt(9) - 1;
+        switch (choose(1, 4, 4, 3, 2, 4)) {
+            case 0 -> both("error()", Face::error);
+            case 1 -> both("state(" + what + ")", x -> x.state(what));
+            case 2 -> both("thing(" + thing + ", " + n + ", " + what % 5 + ")", x -> x.thing(thing, n, what % 5));
+            case 3 -> both("chain(" + n + ", " + out + ", " + what + ")", x -> x.chain(n, out, what));
+            case 4 -> both("has(" + n + ", " + name + ")", x -> x.has(n, name));
+            default -> both("value(" + thing + ", " + n + ", " + name + ", " + (what - 2) + ")",
+                x -> x.value(thing, n, name, what - 2));
         }
     }
 }

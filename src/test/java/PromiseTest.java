@@ -1,13 +1,8 @@
-/** Each promise of the document: ordinary inputs, the edges it names, and wrong inputs. */
-public final class PromiseTest {
-    private static final int NODE = 4;
-    private static final int LINK = 5;
-    private static final int NUMBER = 1;
-    private static final int TRUTH = 2;
-    private static final int TEXT = 3;
-    private static final int AWAY = 0;
-
-    private final Due due = new Due("PromiseTest");
+/** Each promise of the document, in runs as they may come: ordinary inputs, and wrong ones among them. */
+public final class PromiseTest extends Bench {
+    private PromiseTest() {
+        super("PromiseTest");
+    }
 
     public static void main(String[] args) {
         PromiseTest test = new PromiseTest();
@@ -55,57 +50,47 @@ public final class PromiseTest {
         test.due.end();
     }
 
-    private static long word(String text) {
-        long word = 0;
-        for (int i = 0; i < text.length(); i++) {
-            word = word << 8 | text.charAt(i);
-        }
-        return word;
+    private static Real withNodes(int count) {
+        return at(nodes(count));
     }
 
-    private static GraphKeep withNodes(int count) {
-        GraphKeep x = new GraphKeep();
-        for (int i = 0; i < count; i++) {
-            x.node();
-        }
-        return x;
-    }
-
-    private static GraphKeep kept(int count) {
-        GraphKeep x = withNodes(count);
+    private static Real kept(int count) {
+        Real x = withNodes(count);
         x.done();
         return x;
     }
 
     /** Makes so many CHANGES at a NODE, by one LABEL that comes and goes. */
-    private static void change(GraphKeep x, int n, int count) {
+    private static void change(Real x, int n, int count) {
+        boolean on = x.has(n, 99);
         for (int i = 0; i < count; i++) {
-            x.label(n, 99, !x.has(n, 99));
+            on = !on;
+            x.label(n, 99, on);
         }
     }
 
-    private static GraphKeep switchedOff() {
-        GraphKeep x = kept(2);
+    private static Real switchedOff() {
+        Real x = kept(2);
         x.cut(1);
         x.node();
         Due.answer(x::done);
         return x;
     }
 
-    private void states(GraphKeep x, int... wanted) {
+    private void states(Real x, int... wanted) {
         for (int what = 0; what < wanted.length; what++) {
             due.is("state(" + what + ")", x.state(what), wanted[what]);
         }
     }
 
-    private void error(GraphKeep x, int wanted, String what, Due.Call call) {
+    private void error(Real x, int wanted, String what, Due.Call call) {
         int changes = x.state(6);
         due.call(what, Due.ERROR, call);
         due.is("error() behind " + what, x.error(), wanted);
         due.is("state(6) behind " + what, x.state(6), changes);
     }
 
-    private void takeError(GraphKeep x, int wanted, String what, int thing, int n) {
+    private void takeError(Real x, int wanted, String what, int thing, int n) {
         error(x, wanted, what, () -> {
             x.take(thing, n);
             return "void";
@@ -114,7 +99,7 @@ public final class PromiseTest {
 
     private void newObject() {
         due.part("promise 1");
-        GraphKeep x = new GraphKeep();
+        Real x = new Real();
         due.is("NONE", GraphKeep.NONE, -1);
         states(x, 0, 0, 0, 0, 0, 0, 0);
         due.is("error()", x.error(), 0);
@@ -129,13 +114,13 @@ public final class PromiseTest {
         due.call("node()", 0, x::node);
         due.call("an empty tape", true, () -> x.property(NODE, 0, 1, TEXT, 9));
         due.call("length", 0, () -> x.value(NODE, 0, 1, -2));
-        GraphKeep y = new GraphKeep();
+        Real y = new Real();
         states(y, 0, 0, 0, 0, 0, 0, 0);
     }
 
     private void typeGoesToTheTape() {
         due.part("promise 2");
-        GraphKeep x = withNodes(1);
+        Real x = withNodes(1);
         due.is("type(A)", x.type('A', 1), true);
         due.is("type(bcdefghi)", x.type(word("bcdefghi"), 8), true);
         due.is("type(..xyz, 2): the lowest two", x.type(word("xyz"), 2), true);
@@ -151,7 +136,7 @@ public final class PromiseTest {
 
     private void typeRefuses() {
         due.part("promise 2, refused");
-        GraphKeep x = withNodes(1);
+        Real x = withNodes(1);
         long ab = word("abababab");
         for (int n : new int[] {0, -1, 9, 16, Integer.MIN_VALUE, Integer.MAX_VALUE}) {
             due.is("type(.., " + n + ")", x.type(ab, n), false);
@@ -177,7 +162,7 @@ public final class PromiseTest {
 
     private void nodeNumbers() {
         due.part("promise 3");
-        GraphKeep x = kept(3);
+        Real x = kept(3);
         x.take(NODE, 1);
         due.call("node(): 1 was taken away in this STATEMENT", 3, x::node);
         x.done();
@@ -209,7 +194,7 @@ public final class PromiseTest {
 
     private void nodeTooMany() {
         due.part("promise 3, too many");
-        GraphKeep x = withNodes(63);
+        Real x = withNodes(63);
         due.call("the 64th", 63, x::node);
         error(x, 6, "the 65th", x::node);
         due.is("NODES", x.state(0), 64);
@@ -221,7 +206,7 @@ public final class PromiseTest {
 
     private void label() {
         due.part("promise 4");
-        GraphKeep x = withNodes(2);
+        Real x = withNodes(2);
         int[] labels = {Integer.MIN_VALUE, 0, -1, Integer.MAX_VALUE};
         for (int label : labels) {
             due.call("label on", true, () -> x.label(0, label, true));
@@ -247,7 +232,7 @@ public final class PromiseTest {
 
     private void labelLimits() {
         due.part("promise 4, too many");
-        GraphKeep x = withNodes(1);
+        Real x = withNodes(1);
         for (int label = 1; label <= 4; label++) {
             x.label(0, label, true);
         }
@@ -262,7 +247,7 @@ public final class PromiseTest {
 
     private void propertyKinds() {
         due.part("promise 5");
-        GraphKeep x = withNodes(2);
+        Real x = withNodes(2);
         x.link(0, 1, 7);
         for (int thing = NODE; thing <= LINK; thing++) {
             int t = thing;
@@ -305,7 +290,7 @@ public final class PromiseTest {
 
     private void propertyRefuses() {
         due.part("promise 5, refused");
-        GraphKeep x = withNodes(1);
+        Real x = withNodes(1);
         for (int kind : new int[] {-1, 4, 5, Integer.MIN_VALUE, Integer.MAX_VALUE}) {
             error(x, 2, "kind " + kind, () -> x.property(NODE, 0, 1, kind, 0));
         }
@@ -324,7 +309,7 @@ public final class PromiseTest {
 
     private void propertyLimits() {
         due.part("promise 5, too many");
-        GraphKeep x = withNodes(1);
+        Real x = withNodes(1);
         x.link(0, 0, 0);
         for (int thing = NODE; thing <= LINK; thing++) {
             int t = thing;
@@ -347,7 +332,7 @@ public final class PromiseTest {
 
     private void propertyAndTheTape() {
         due.part("promise 5, the tape");
-        GraphKeep x = withNodes(2);
+        Real x = withNodes(2);
         x.type(word("abc"), 3);
         error(x, 8, "no such thing", () -> x.property(NODE, 9, 1, TEXT, 0));
         error(x, 2, "no such kind", () -> x.property(NODE, 0, 1, 4, 0));
@@ -378,7 +363,7 @@ public final class PromiseTest {
 
     private void link() {
         due.part("promise 6");
-        GraphKeep x = withNodes(3);
+        Real x = withNodes(3);
         due.call("link", 0, () -> x.link(0, 1, Integer.MIN_VALUE));
         due.call("another of the same ends", 1, () -> x.link(0, 1, Integer.MAX_VALUE));
         due.call("to itself", 2, () -> x.link(2, 2, 0));
@@ -403,7 +388,7 @@ public final class PromiseTest {
 
     private void linkTooMany() {
         due.part("promise 6, too many");
-        GraphKeep x = withNodes(2);
+        Real x = withNodes(2);
         for (int i = 0; i < 96; i++) {
             int n = i;
             due.call("link", n, () -> x.link(0, 1, n));
@@ -418,7 +403,7 @@ public final class PromiseTest {
 
     private void take() {
         due.part("promise 7");
-        GraphKeep x = withNodes(3);
+        Real x = withNodes(3);
         x.label(0, 1, true);
         x.property(NODE, 0, 1, NUMBER, 1);
         x.link(0, 1, 5);
@@ -456,7 +441,7 @@ public final class PromiseTest {
 
     private void changeLimit() {
         due.part("ERROR 9 at the 250th CHANGE");
-        GraphKeep x = withNodes(2);
+        Real x = withNodes(2);
         x.link(0, 1, 1);
         change(x, 0, 246);
         due.is("CHANGES", x.state(6), 249);
@@ -476,7 +461,7 @@ public final class PromiseTest {
 
     private void changeLimitInTransaction() {
         due.part("ERROR 9 at the 250th CHANGE of a TRANSACTION");
-        GraphKeep x = new GraphKeep();
+        Real x = new Real();
         x.begin();
         x.node();
         change(x, 0, 200);
@@ -494,7 +479,7 @@ public final class PromiseTest {
 
     private void errorOrder() {
         due.part("the order of ERRORS");
-        GraphKeep x = new GraphKeep();
+        Real x = new Real();
         x.begin();
         for (int i = 0; i < 64; i++) {
             x.node();
@@ -525,7 +510,7 @@ public final class PromiseTest {
 
     private void errorStays() {
         due.part("promise 8");
-        GraphKeep x = withNodes(1);
+        Real x = withNodes(1);
         due.is("none yet", x.error(), 0);
         error(x, 8, "label", () -> x.label(5, 1, true));
         x.label(0, 1, true);
@@ -551,7 +536,7 @@ public final class PromiseTest {
 
     private void done() {
         due.part("promise 9");
-        GraphKeep x = withNodes(2);
+        Real x = withNodes(2);
         due.call("done()", 2, x::done);
         states(x, 2, 0, 3, 3, 0, 0, 0);
         due.call("done() without CHANGES", 0, x::done);
@@ -577,7 +562,7 @@ public final class PromiseTest {
 
     private void doneWithoutRoom() {
         due.part("promise 9, no room");
-        GraphKeep x = kept(1);
+        Real x = kept(1);
         change(x, 0, 240);
         x.done();
         due.is("LOG", x.state(3), 243);
@@ -613,7 +598,7 @@ public final class PromiseTest {
     private void donePowerFails() {
         due.part("promise 9, the power fails");
         for (int n = 1; n <= 5; n++) {
-            GraphKeep x = kept(2);
+            Real x = kept(2);
             x.label(0, 5, true);
             x.link(0, 1, 5);
             x.take(NODE, x.node());
@@ -624,7 +609,7 @@ public final class PromiseTest {
             states(x, 2, 0, 3 + n - 1, 3, 0, 0, 0);
             due.is("has", x.has(0, 5), false);
         }
-        GraphKeep x = kept(2);
+        Real x = kept(2);
         x.node();
         x.cut(3);
         due.call("done()", 1, x::done);
@@ -636,7 +621,7 @@ public final class PromiseTest {
 
     private void undo() {
         due.part("promise 10");
-        GraphKeep x = kept(2);
+        Real x = kept(2);
         x.node();
         x.label(0, 1, true);
         due.call("undo()", 2, x::undo);
@@ -655,7 +640,7 @@ public final class PromiseTest {
 
     private void undoRestoresAll() {
         due.part("promise 10, all is as it was");
-        GraphKeep x = withNodes(3);
+        Real x = withNodes(3);
         x.label(0, 1, true);
         x.label(0, 2, true);
         x.type(word("text"), 4);
@@ -687,7 +672,7 @@ public final class PromiseTest {
 
     private void begin() {
         due.part("promise 11");
-        GraphKeep x = kept(1);
+        Real x = kept(1);
         x.node();
         due.call("begin()", true, x::begin);
         states(x, 1, 0, 2, 2, 0, 1, 0);
@@ -705,7 +690,7 @@ public final class PromiseTest {
 
     private void commit() {
         due.part("promise 12");
-        GraphKeep x = withNodes(1);
+        Real x = withNodes(1);
         due.call("commit() without one", -1, x::commit);
         due.is("the STATEMENT goes on", x.state(6), 1);
         x.done();
@@ -727,7 +712,7 @@ public final class PromiseTest {
 
     private void commitWithoutRoom() {
         due.part("promise 12, no room");
-        GraphKeep x = kept(2);
+        Real x = kept(2);
         change(x, 0, 242);
         x.done();
         due.is("LOG", x.state(3), 246);
@@ -760,7 +745,7 @@ public final class PromiseTest {
     private void commitPowerFails() {
         due.part("promise 12, the power fails");
         for (int n = 1; n <= 3; n++) {
-            GraphKeep x = kept(1);
+            Real x = kept(1);
             x.begin();
             x.node();
             x.done();
@@ -777,7 +762,7 @@ public final class PromiseTest {
 
     private void rollback() {
         due.part("promise 13");
-        GraphKeep x = kept(2);
+        Real x = kept(2);
         x.label(0, 1, true);
         due.is("rollback() without one", x.rollback(), false);
         due.is("the STATEMENT goes on", x.state(6), 1);
@@ -802,7 +787,7 @@ public final class PromiseTest {
 
     private void checkpoint() {
         due.part("promise 14");
-        GraphKeep x = kept(3);
+        Real x = kept(3);
         x.link(0, 1, 1);
         due.call("a STATEMENT with CHANGES", -1, x::checkpoint);
         x.done();
@@ -827,7 +812,7 @@ public final class PromiseTest {
     private void checkpointPowerFails() {
         due.part("promise 14, the power fails");
         for (int n = 1; n <= 4; n++) {
-            GraphKeep x = kept(2);
+            Real x = kept(2);
             x.checkpoint();
             x.link(0, 1, 6);
             x.done();
@@ -842,7 +827,7 @@ public final class PromiseTest {
 
     private void cut() {
         due.part("promise 15");
-        GraphKeep x = kept(1);
+        Real x = kept(1);
         for (int n : new int[] {-1, 2001, Integer.MIN_VALUE, Integer.MAX_VALUE}) {
             due.is("cut(" + n + ")", x.cut(n), false);
         }
@@ -860,19 +845,11 @@ public final class PromiseTest {
         due.is("cut(3)", x.cut(3), true);
         due.call("the latest one counts", 2, x::checkpoint);
         due.call("the third WRITE", Due.OFF, x::checkpoint);
-        x.recover();
-        x.cut(2000);
-        int writes = x.state(2);
-        for (int i = 0; i < 999; i++) {
-            x.checkpoint();
-        }
-        due.call("the 1999th and 2000th", Due.OFF, x::checkpoint);
-        due.is("WRITES", x.state(2), writes + 1999);
     }
 
     private void recoverFromOff() {
         due.part("promise 16");
-        GraphKeep x = switchedOff();
+        Real x = switchedOff();
         x.type(word("ab"), 2);
         due.is("recover()", x.recover(), 1);
         states(x, 2, 0, 3, 3, 0, 0, 0);
@@ -888,7 +865,7 @@ public final class PromiseTest {
 
     private void recoverWhileOn() {
         due.part("promise 16, not OFF");
-        GraphKeep x = kept(2);
+        Real x = kept(2);
         x.node();
         due.is("recover()", x.recover(), 1);
         states(x, 2, 0, 3, 3, 0, 0, 0);
@@ -909,7 +886,7 @@ public final class PromiseTest {
 
     private void recoverCounts() {
         due.part("promise 16, how many");
-        GraphKeep x = kept(1);
+        Real x = kept(1);
         x.checkpoint();
         for (int i = 0; i < 3; i++) {
             x.node();
@@ -942,7 +919,7 @@ public final class PromiseTest {
 
     private void whileOff() {
         due.part("while OFF");
-        GraphKeep x = switchedOff();
+        Real x = switchedOff();
         due.call("node()", Due.OFF, x::node);
         due.call("label", Due.OFF, () -> x.label(0, 1, true));
         due.call("label at none", Due.OFF, () -> x.label(-1, 1, true));
@@ -972,7 +949,7 @@ public final class PromiseTest {
 
     private void thing() {
         due.part("promise 17");
-        GraphKeep x = withNodes(3);
+        Real x = withNodes(3);
         x.label(1, 5, true);
         x.label(1, 6, true);
         x.property(NODE, 1, 1, NUMBER, 1);
@@ -1002,7 +979,7 @@ public final class PromiseTest {
 
     private void chain() {
         due.part("promise 18");
-        GraphKeep x = withNodes(3);
+        Real x = withNodes(3);
         x.link(0, 1, 0);
         x.link(1, 0, 0);
         x.link(0, 0, 0);
@@ -1029,7 +1006,7 @@ public final class PromiseTest {
 
     private void has() {
         due.part("promise 19");
-        GraphKeep x = withNodes(2);
+        Real x = withNodes(2);
         x.label(0, 0, true);
         x.label(1, -1, true);
         due.is("has(0, 0)", x.has(0, 0), true);
@@ -1045,7 +1022,7 @@ public final class PromiseTest {
 
     private void value() {
         due.part("promise 20");
-        GraphKeep x = withNodes(1);
+        Real x = withNodes(1);
         x.type(word("a~"), 2);
         x.property(NODE, 0, 1, TEXT, 0);
         x.property(NODE, 0, 2, NUMBER, Long.MAX_VALUE);
@@ -1072,7 +1049,7 @@ public final class PromiseTest {
 
     private void state() {
         due.part("promise 21");
-        GraphKeep x = withNodes(2);
+        Real x = withNodes(2);
         x.link(0, 1, 1);
         states(x, 2, 1, 0, 0, 0, 0, 3);
         x.done();
