@@ -1,15 +1,12 @@
-import java.io.IOException;
 import java.lang.reflect.Constructor;
 import java.lang.reflect.Field;
 import java.lang.reflect.Method;
 import java.lang.reflect.Modifier;
-import java.nio.file.Files;
-import java.nio.file.Path;
 import java.util.Arrays;
 import java.util.Set;
 import java.util.TreeSet;
 
-/** The public face, and the rules of LANGUAGE.md that reflection and the text can show. */
+/** The public face: all of the document's, and nothing else. */
 public final class FaceTest {
     private static final String[] FACE = {
         "boolean type(long, int)",
@@ -33,20 +30,13 @@ public final class FaceTest {
         "long value(int, int, int, int) NoSuchElementException",
         "int state(int)",
     };
-    private static final String[] BANNED = {
-        "package ", "catch", "try ", "finally", "synchronized", "assert ", "->", "::", "static {", "extends Exception",
-        "Exact(", "System.out", "System.nano", "System.current", "Random", "Thread", "getMessage", "hashCode",
-        "toString", "java.io", "java.nio", "java.time", "HashMap", "Iterator", " / ", " % ",
-    };
 
     private static final Due due = new Due("FaceTest");
 
-    public static void main(String[] args) throws IOException {
+    public static void main(String[] args) {
         publicFace();
         constants();
         nothingElseShows();
-        classesInside();
-        text(Files.readString(Path.of("src/main/java/GraphKeep.java")));
         due.end();
     }
 
@@ -99,36 +89,5 @@ public final class FaceTest {
         due.is("how many", open.length, 1);
         due.is("the one", open[0].toString(), "public static final int GraphKeep.NONE");
         due.is("NONE", GraphKeep.NONE, -1);
-    }
-
-    private static void classesInside() {
-        due.part("rules 1, 2 and 11");
-        Class<?>[] inside = GraphKeep.class.getDeclaredClasses();
-        due.is("at most twelve classes", inside.length < 12, true);
-        for (Class<?> one : inside) {
-            int modifiers = one.getModifiers();
-            due.is(one + " is static", Modifier.isStatic(modifiers), true);
-            due.is(one + " is hidden", !Modifier.isPublic(modifiers) && !Modifier.isProtected(modifiers), true);
-            sizes(one);
-        }
-        sizes(GraphKeep.class);
-    }
-
-    private static void sizes(Class<?> one) {
-        long fields = Arrays.stream(one.getDeclaredFields()).filter(field -> !Modifier.isStatic(field.getModifiers())).count();
-        due.is(one + " has at most twenty fields", fields <= 20, true);
-        for (Method method : one.getDeclaredMethods()) {
-            due.is(method + " has at most seven parameters", method.getParameterCount() <= 7, true);
-        }
-    }
-
-    private static void text(String source) {
-        due.part("the text");
-        for (String banned : BANNED) {
-            due.is("has " + banned, source.contains(banned), false);
-        }
-        due.is("imports", source.lines().filter(line -> line.startsWith("import")).toList(),
-            "[import java.util.NoSuchElementException;]");
-        due.is("a tab", source.contains("\t"), false);
     }
 }
