@@ -29,6 +29,12 @@ record Situation(String name, Script script, int... states) {
         x.property(NODE, 0, 1, 1, 5);
         x.label(0, 5, false);
     };
+    private static final Script MADE_AND_TAKEN = x -> {
+        x.node();
+        x.take(NODE, 3);
+        x.link(0, 0, 1);
+        x.take(LINK, 2);
+    };
     private static final Script FULL = x -> {
         Bench.nodes(64).on(x);
         Bench.links(96).on(x);
@@ -51,6 +57,9 @@ record Situation(String name, Script script, int... states) {
         new Situation("in the middle of a STATEMENT", KEPT.then(MORE), 4, 1, 11, 11, 0, 0, 4),
         new Situation("in a TRANSACTION", BEGUN, 2, 2, 11, 11, 0, 1, 2),
         new Situation("in the middle of a STATEMENT in a TRANSACTION", BEGUN.then(MORE), 3, 1, 11, 11, 0, 1, 6),
+        new Situation("behind what was made and taken away", KEPT.then(MADE_AND_TAKEN), 3, 2, 11, 11, 0, 0, 4),
+        new Situation("behind what was made and taken away in a TRANSACTION", KEPT.then(Face::begin).then(MADE_AND_TAKEN),
+            3, 2, 11, 11, 0, 1, 4),
         new Situation("behind a CHECKPOINT", KEPT.then(Face::checkpoint), 3, 2, 17, 0, 0, 0, 0),
         new Situation("right behind an ERROR", KEPT.then(MORE).thenRefused(x -> x.label(-1, 1, true)),
             4, 1, 11, 11, 0, 0, 4),

@@ -8,7 +8,8 @@ import java.util.Set;
  * asked afterwards is answered as by the Model, and behind a refused call as if it had not been made.
  */
 public final class SweepTest extends Bench {
-    private record Named(String name, String method, Ask ask) { }
+    /** Of a group, one call of each answer gets all that can be asked behind it. */
+    private record Named(String name, String method, String group, Ask ask) { }
 
     private static final int[] NUMBERS = {LEAST, -1, 0, 1, 2, 3, 62, 63, 64, 94, 95, 96, MOST};
     private static final int[] INTS = {LEAST, -1, 0, 1, 5, 7, MOST};
@@ -44,7 +45,11 @@ public final class SweepTest extends Bench {
     }
 
     private void add(String method, String arguments, Ask ask) {
-        calls.add(new Named(method + "(" + arguments + ")", method, ask));
+        add(method, method, arguments, ask);
+    }
+
+    private void add(String method, String group, String arguments, Ask ask) {
+        calls.add(new Named(method + "(" + arguments + ")", method, group, ask));
     }
 
     private void gather() {
@@ -96,7 +101,7 @@ public final class SweepTest extends Bench {
                 for (int key : new int[] {LEAST, 1, 7}) {
                     for (long[] value : VALUES) {
                         int kind = (int) value[0];
-                        add("property", thing + ", " + n + ", " + key + ", " + kind + ", " + value[1],
+                        add("property", "property of kind " + kind, thing + ", " + n + ", " + key + ", " + kind + ", " + value[1],
                             x -> x.property(thing, n, key, kind, value[1]));
                     }
                 }
@@ -140,8 +145,7 @@ public final class SweepTest extends Bench {
                 met.add("ERROR " + error);
             }
             due.is("error() behind " + call.name(), real.error(), error);
-            // One call of each method and answer is enough to ask all that can be asked behind it.
-            if (kinds.add(call.method() + got + error)) {
+            if (kinds.add(call.group() + got + error)) {
                 behind(looks, call, got, error);
             }
         }

@@ -38,6 +38,7 @@ public final class TermsTest extends Bench {
         test.statement();
         test.leastNumber();
         test.numbersAreFreeAgain();
+        test.numbersMadeAndTakenAreFreeAgain();
         test.takenAwayIsRefused();
         test.eachChangeCounts();
         test.othersStay();
@@ -376,6 +377,32 @@ public final class TermsTest extends Bench {
             error(6, "link() behind take(5, " + n + ")", away, x -> x.link(0, 0, 7));
             answers(n, "link() in the next STATEMENT", away.then(Face::done), x -> x.link(0, 0, 7));
         }
+    }
+
+    /** Here nothing comes back that would hide a number that is not free. */
+    private void numbersMadeAndTakenAreFreeAgain() {
+        due.part("a number made and taken away is free again behind the STATEMENT");
+        Script one = nodes(1).then(Face::done);
+        Script madeAndTaken = nodes(1).then(x -> x.take(NODE, 1)).then(links(1)).then(x -> x.take(LINK, 0));
+        Script under = one.then(madeAndTaken);
+        Script begun = one.then(Face::begin).then(madeAndTaken);
+        answers(2, "node() in the same STATEMENT", under, Face::node);
+        answers(1, "link() in the same STATEMENT", under, x -> x.link(0, 0, 7));
+        freeBehind("done()", under.then(Face::done));
+        freeBehind("undo()", under.then(Face::undo));
+        freeBehind("begin()", under.then(Face::begin));
+        freeBehind("recover()", under.then(Face::recover));
+        freeBehind("done() in a TRANSACTION", begun.then(Face::done));
+        freeBehind("undo() in a TRANSACTION", begun.then(Face::undo));
+        freeBehind("commit()", begun.then(Face::commit));
+        freeBehind("rollback()", begun.then(Face::rollback));
+        freeBehind("recover() in a TRANSACTION", begun.then(Face::recover));
+        freeBehind("done() that is refused", nodes(1).then(changes(0, 245)).then(Face::done).then(madeAndTaken)
+            .thenRefused(Face::done));
+        freeBehind("commit() that answers -2", nodes(1).then(changes(0, 245)).then(Face::done).then(Face::begin)
+            .then(madeAndTaken).then(Face::commit));
+        freeBehind("a power failure at done()", under.then(x -> x.cut(1)).thenRefused(Face::done).then(Face::recover));
+        freeBehind("a power failure at commit()", begun.then(x -> x.cut(1)).thenRefused(Face::commit).then(Face::recover));
     }
 
     private void freeBehind(String what, Script before) {

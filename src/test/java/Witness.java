@@ -64,7 +64,7 @@ record Witness(String name, Ask ask) {
     }
 
     private static Ask behind(Ask call) {
-        return x -> Due.answer(call, x) + " " + seen(x);
+        return x -> Due.answer(call, x) + " " + seen(x) + ", new things: " + newThings(x);
     }
 
     /** Some CHANGES ahead, of which one at least is taken in a full graph too. */
